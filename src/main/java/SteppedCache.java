@@ -345,7 +345,7 @@ public final class SteppedCache {
             Arrays.fill(depths, NONE);
             enter(firstBucket(key), NONE, 0);
             enter(secondBucket(key), NONE, 0);
-            for (int head = 0; head < queued; head++) {
+            for (int head = 0; head < queue.length && head < queued; head++) {
                 int p = queue[head];
                 if (store.places[p] == NONE) {
                     keep(p);

@@ -17,6 +17,7 @@ public final class ReadTest {
         thirdRetryLocks();
         lockedWaitsAndHits();
         lockedMisses();
+        lockedCountsNearMisses();
         retriesBeginAnew();
         movedItemIsFoundOnce();
         valueAndTokenOnlyAtHit();
@@ -256,6 +257,17 @@ public final class ReadTest {
             Check.yes("no reader removes", y.used(0));
             Check.same("expired ones removed", y.count(6), 0);
         }
+    }
+
+    private static void lockedCountsNearMisses() {
+        SteppedCache x = new SteppedCache(4, 2);
+        int key = Keys.nth(1, 0, 1, 0, Keys.ANY);
+        Drive.set(x, Keys.nth(0, 0, 1, 0, Keys.ANY), 1);
+        Drive.set(x, key, 10);
+        lock(x, key);
+        int before = x.count(5);
+        Drive.steps(x, 0, 7);
+        Check.same("near misses of the step", x.count(5) - before, 1);
     }
 
     private static void retriesBeginAnew() {

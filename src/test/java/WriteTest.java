@@ -12,6 +12,7 @@ public final class WriteTest {
         changeTakesTwoSteps();
         changeUsesTheTimeOfItsLastStep();
         insertUsesTheTimeOfItsLastStep();
+        insertPutsTheBitOff();
         evictionWithBits();
         evictionWhenAllBitsAreOn();
         evictionThenNoRoom();
@@ -194,6 +195,16 @@ public final class WriteTest {
         Check.same("expiry", x.item(0, 3), 107);
         Drive.set(x, 2, 20);
         Check.same("expiry for life 0", x.item(1, 3), 0);
+    }
+
+    private static void insertPutsTheBitOff() {
+        SteppedCache x = new SteppedCache(4, 2);
+        Drive.set(x, 1, 10);
+        Drive.read(x, 0, 1);
+        Drive.delete(x, 1);
+        Drive.set(x, 2, 20);
+        Check.same("key of the item used again", x.item(0, 0), 2);
+        Check.same("its bit", x.item(0, 4), 0);
     }
 
     private static void evictionWithBits() {
