@@ -29,6 +29,11 @@ final class Keys {
         return other(first(key), key);
     }
 
+    /** Keys spread over the buckets, so that with four slots a bucket each of 32 has a place in its first one. */
+    static int spread(int n) {
+        return nth(n / 8, n % 8, n % 8 ^ 1);
+    }
+
     /** The n-th key (from 0) upwards from 0 with this first and second bucket. */
     static int nth(int n, int first, int second) {
         return nth(n, first, second, ANY, ANY);

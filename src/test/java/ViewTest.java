@@ -4,7 +4,10 @@ public final class ViewTest {
         newObjectIsEmpty();
         numberOfItems();
         numberOfWays();
+        wrongItemsWithRightWays();
         passMovesTime();
+        passChangesTheTimeAlone();
+        longestTime();
         whereFindsPlaces();
         whereFindsExpiredOnes();
         atShowsPlaces();
@@ -36,65 +39,98 @@ public final class ViewTest {
         Check.same("new where(0)", x.where(0), -1);
     }
 
-    /** Sets keys until one is evicted: so many items there are. */
-    private static int itemsOf(SteppedCache x) {
-        for (int key = 0; key < 100; key++) {
-            int before = x.count(0);
-            Drive.write(x, Drive.SET, key, 1, 0, 0);
-            if (x.count(1) == 1) {
-                return before;
-            }
+    /** So many items there are when so many keys are set without an eviction and one more evicts the first. */
+    private static void hasItems(int asked, int due) {
+        SteppedCache x = new SteppedCache(asked, 4);
+        for (int n = 0; n < due; n++) {
+            Drive.set(x, Keys.spread(n), n);
         }
-        return -1;
+        Check.same("used items for " + asked, x.count(0), due);
+        Check.yes("the last item for " + asked, x.used(due - 1));
+        Check.same("evictions for " + asked, x.count(1), 0);
+        Drive.write(x, Drive.SET, Keys.spread(due), due, 0, 0);
+        Check.same("evictions with one key more for " + asked, x.count(1), 1);
+        Check.no("no item beyond for " + asked, x.used(due));
+        Check.same("the first key for " + asked, x.where(Keys.spread(0)), -1);
     }
 
     private static void numberOfItems() {
-        int[] asked = {1, 2, 11, 12, 13, 0, 33, -1, Integer.MIN_VALUE, Integer.MAX_VALUE};
-        int[] due = {1, 2, 11, 12, 13, 12, 12, 12, 12, 12};
-        for (int n = 0; n < asked.length; n++) {
-            Check.same("items for " + asked[n], itemsOf(new SteppedCache(asked[n], 4)), due[n]);
+        for (int items = 1; items <= 32; items++) {
+            hasItems(items, items);
         }
-        SteppedCache most = new SteppedCache(32, 4);
-        for (int bucket = 0; bucket < 8; bucket++) {
-            for (int slot = 0; slot < 4; slot++) {
-                Drive.set(most, Keys.nth(slot, bucket, bucket ^ 1), slot);
-            }
+        for (int items : Numbers.beyond(1, 32)) {
+            hasItems(items, 12);
         }
-        Check.same("32 items are used", most.count(0), 32);
-        Check.yes("the last of 32 items is used", most.used(31));
-        Check.same("32 items without eviction", most.count(1), 0);
+    }
+
+    private static void hasWays(int asked, int due) {
+        SteppedCache x = new SteppedCache(32, asked);
+        for (int slot = 0; slot < due; slot++) {
+            Drive.set(x, Keys.nth(slot, 7, 6), 1);
+            Check.same("slot " + slot + " of bucket 7 for ways " + asked, x.where(Keys.nth(slot, 7, 6)), 7 * due + slot);
+        }
+        Check.same("the last place for ways " + asked, x.at(8 * due - 1), due - 1);
+        Check.same("beyond the last place for ways " + asked, x.at(8 * due), -1);
+        Drive.set(x, Keys.nth(due, 7, 6), 1);
+        Check.same("second bucket for ways " + asked, x.where(Keys.nth(due, 7, 6)), 6 * due);
     }
 
     private static void numberOfWays() {
-        int[] asked = {1, 2, 3, 4, 0, 5, -1, Integer.MIN_VALUE, Integer.MAX_VALUE};
-        int[] due = {1, 2, 3, 4, 2, 2, 2, 2, 2};
-        for (int n = 0; n < asked.length; n++) {
-            SteppedCache x = new SteppedCache(32, asked[n]);
-            int key = Keys.nth(0, 7, 6);
-            Drive.set(x, key, 1);
-            Check.same("first place of bucket 7 for ways " + asked[n], x.where(key), 7 * due[n]);
-            for (int slot = 1; slot < due[n]; slot++) {
-                Drive.set(x, Keys.nth(slot, 7, 6), 1);
-            }
-            Check.same("last place for ways " + asked[n], x.at(8 * due[n] - 1), due[n] - 1);
-            Check.same("beyond the last place", x.at(8 * due[n]), -1);
-            int more = Keys.nth(due[n], 7, 6);
-            Drive.set(x, more, 1);
-            Check.same("second bucket for ways " + asked[n], x.where(more), 6 * due[n]);
+        for (int ways = 1; ways <= 4; ways++) {
+            hasWays(ways, ways);
         }
+        for (int ways : Numbers.beyond(1, 4)) {
+            hasWays(ways, 2);
+        }
+    }
+
+    /** One number is right and the other wrong: each is looked at by itself. */
+    private static void wrongItemsWithRightWays() {
+        SteppedCache x = new SteppedCache(0, 1);
+        Drive.set(x, Keys.nth(0, 7, 6), 1);
+        Check.same("ways stay 1", x.where(Keys.nth(0, 7, 6)), 7);
+        SteppedCache y = new SteppedCache(1, 0);
+        Drive.set(y, Keys.nth(0, 7, 6), 1);
+        Drive.set(y, Keys.nth(1, 7, 6), 1);
+        Check.same("items stay 1", y.count(0), 1);
+        Check.same("ways are 2", y.where(Keys.nth(1, 7, 6)), 14);
     }
 
     private static void passMovesTime() {
         SteppedCache x = new SteppedCache(4, 1);
-        int[] wrong = {0, -1, 1001, Integer.MIN_VALUE, Integer.MAX_VALUE};
-        for (int n : wrong) {
+        for (int n : Numbers.beyond(1, 1000)) {
             Check.no("pass(" + n + ")", x.pass(n));
+            Check.same("time after pass(" + n + ")", x.count(7), 0);
         }
-        Check.same("time after wrong ones", x.count(7), 0);
-        Check.yes("pass(1)", x.pass(1));
-        Check.yes("pass(1000)", x.pass(1000));
-        Check.yes("pass(7)", x.pass(7));
-        Check.same("time", x.count(7), 1008);
+        int time = 0;
+        for (int n : new int[] {1, 2, 7, 999, 1000, 1}) {
+            Check.yes("pass(" + n + ")", x.pass(n));
+            time += n;
+            Check.same("time after pass(" + n + ")", x.count(7), time);
+        }
+    }
+
+    /** The time may grow at any time, and nothing else changes by it. */
+    private static void passChangesTheTimeAlone() {
+        for (Situation situation : Situation.all()) {
+            SteppedCache x = situation.make();
+            View before = View.of(x, Situation.ITEMS, Situation.WAYS);
+            int time = x.count(7);
+            Check.yes(situation.name + ", pass(1000)", x.pass(1000));
+            Check.same(situation.name + ", time", x.count(7), time + 1000);
+            View.of(x, Situation.ITEMS, Situation.WAYS).mustBe(situation.name + ", pass(1000)", before, "count(7)");
+        }
+    }
+
+    /** As many calls as there may be, each with the greatest number. */
+    private static void longestTime() {
+        SteppedCache x = new SteppedCache(4, 1);
+        for (int n = 0; n < 505; n++) {
+            x.pass(1000);
+        }
+        Drive.setFor(x, 1, 1, 1000);
+        Check.same("the time", x.count(7), 505_000);
+        Check.same("the expiry", x.item(0, 3), 506_000);
     }
 
     private static void whereFindsPlaces() {

@@ -1,5 +1,9 @@
-/** Promises 2 to 4: how a write begins, goes on and ends. */
+/** Promises 2 to 4: how a write begins, goes on and ends; its first step for each kind, and CHANGE. */
 public final class WriteTest {
+    private static final int IN_FIRST = Keys.nth(0, 3, 5, Keys.ANY, 2);
+    private static final int IN_SECOND = Keys.nth(1, 3, 5, Keys.ANY, 2);
+    private static final int NOWHERE = Keys.nth(2, 3, 5, Keys.ANY, 2);
+
     public static void main(String[] args) {
         wrongWrites();
         writeDoesNoStep();
@@ -11,18 +15,16 @@ public final class WriteTest {
         expiredKeyCountsAsNotFound();
         changeTakesTwoSteps();
         changeUsesTheTimeOfItsLastStep();
-        insertUsesTheTimeOfItsLastStep();
-        insertPutsTheBitOff();
-        evictionWithBits();
-        evictionWhenAllBitsAreOn();
-        evictionThenNoRoom();
-        expiredKeyIsRemovedBeforeFullnessCounts();
-        firstBucketFirst();
-        firstBucketBeforeLesserPlace();
-        shorterPathBeforeFirstBucket();
-        lesserPlacesFirst();
-        moveTakesTwoSteps();
-        fourMovesAreTheMost();
+        kindsWhenNotFound();
+        kindsWhenFound();
+        kindsWhenFoundButExpired();
+        casTokens();
+        tokenCountsForCasAlone();
+        lives();
+        tokensGrowByOne();
+        timeOfTheFirstStepTellsWhatIsExpired();
+        changeOfWhatExpiresMeanwhile();
+        workEdges();
         Check.end();
     }
 
@@ -186,215 +188,196 @@ public final class WriteTest {
         Check.same("expiry", x.item(0, 3), 107);
     }
 
-    private static void insertUsesTheTimeOfItsLastStep() {
-        SteppedCache x = new SteppedCache(4, 2);
-        x.write(0, 1, 20, 7, 0);
-        x.work(2);
-        x.pass(100);
-        x.work(1);
-        Check.same("expiry", x.item(0, 3), 107);
-        Drive.set(x, 2, 20);
-        Check.same("expiry for life 0", x.item(1, 3), 0);
-    }
-
-    private static void insertPutsTheBitOff() {
-        SteppedCache x = new SteppedCache(4, 2);
-        Drive.set(x, 1, 10);
-        Drive.read(x, 0, 1);
-        Drive.delete(x, 1);
-        Drive.set(x, 2, 20);
-        Check.same("key of the item used again", x.item(0, 0), 2);
-        Check.same("its bit", x.item(0, 4), 0);
-    }
-
-    private static void evictionWithBits() {
-        SteppedCache x = new SteppedCache(3, 4);
-        Drive.set(x, 1, 10);
-        Drive.set(x, 2, 20);
-        Drive.set(x, 3, 30);
-        Drive.read(x, 0, 1);
-        Drive.read(x, 0, 3);
-        x.write(0, 4, 40, 0, 0);
-        x.work(1);
-        Check.same("no eviction by the look-up", x.count(1), 0);
-        x.work(1);
-        Check.same("evictions", x.count(1), 1);
-        Check.same("hand", x.count(8), 2);
-        Check.no("the one without bit is out", x.used(1));
-        Check.same("its key is not found", x.where(2), -1);
-        Check.same("version of its stripe", x.version(Keys.stripe(2)), 2);
-        Check.same("the bit passed over is off", x.item(0, 4), 0);
-        Check.same("the bit behind stays on", x.item(2, 4), 1);
-        Check.same("used items", x.count(0), 2);
-        Check.same("path and insert", x.work(50), 2);
-        Check.same("the freed item is taken", x.item(1, 0), 4);
-        Check.same("its bit is off", x.item(1, 4), 0);
-        Drive.set(x, 5, 50);
-        Check.same("the hand goes round", x.item(0, 0), 5);
-        Check.same("hand", x.count(8), 1);
-        Check.same("the bit is off now", x.item(2, 4), 0);
-        Drive.set(x, 6, 60);
-        Drive.set(x, 7, 70);
-        Check.same("after the last number 0 comes", x.count(8), 0);
-    }
-
-    private static void evictionWhenAllBitsAreOn() {
-        SteppedCache x = new SteppedCache(2, 4);
-        Drive.set(x, 1, 10);
-        Drive.set(x, 2, 20);
-        Drive.set(x, 3, 30);
-        Drive.read(x, 0, 2);
-        Drive.read(x, 0, 3);
-        Check.same("hand before", x.count(8), 1);
-        x.write(0, 4, 40, 0, 0);
-        x.work(2);
-        Check.no("the first one from the hand is out", x.used(1));
-        Check.same("all bits went off", x.item(0, 4), 0);
-        Check.same("hand", x.count(8), 0);
-        SteppedCache one = new SteppedCache(1, 1);
-        Drive.set(one, 1, 10);
-        Drive.read(one, 0, 1);
-        Drive.set(one, 2, 20);
-        Check.same("the only item", one.item(0, 0), 2);
-        Check.same("hand of one item", one.count(8), 0);
-    }
-
-    private static void evictionThenNoRoom() {
-        SteppedCache x = new SteppedCache(3, 1);
-        Drive.set(x, Keys.nth(0, 5, 6), 1);
-        Drive.set(x, Keys.nth(0, 0, 1), 1);
-        Drive.set(x, Keys.nth(1, 0, 1), 1);
-        x.write(0, Keys.nth(2, 0, 1), 1, 0, 0);
-        Check.same("look-up, eviction and path", x.work(50), 3);
-        Check.same("NO ROOM", x.outcome(), 6);
-        Check.same("the eviction stays", x.count(0), 2);
-        Check.same("no token was given", x.count(9), 3);
-        Check.same("a write can begin after it", Drive.write(x, Drive.SET, Keys.nth(0, 5, 6), 1, 0, 0), 1);
-    }
-
-    private static void expiredKeyIsRemovedBeforeFullnessCounts() {
-        SteppedCache x = new SteppedCache(1, 1);
-        Drive.setFor(x, 1, 10, 1);
-        x.pass(1);
-        x.write(0, 1, 20, 0, 0);
-        Check.same("look-up, path and insert", x.work(50), 3);
-        Check.same("no eviction", x.count(1), 0);
-    }
-
-    private static void firstBucketFirst() {
-        SteppedCache x = new SteppedCache(12, 2);
-        for (int n = 0; n < 4; n++) {
-            int key = Keys.nth(n, 6, 2);
-            Drive.set(x, key, 1);
-            Check.same("place of key " + n, x.where(key), n < 2 ? 12 + n : 4 + n - 2);
-        }
-        Check.same("no moves", x.count(2), 0);
-        Drive.delete(x, Keys.nth(0, 6, 2));
-        Drive.set(x, Keys.nth(4, 6, 2), 1);
-        Check.same("the place that became free", x.where(Keys.nth(4, 6, 2)), 12);
-    }
-
-    private static void firstBucketBeforeLesserPlace() {
-        SteppedCache x = new SteppedCache(12, 1);
-        int inFirst = Keys.nth(0, 5, 7);
-        int inSecond = Keys.nth(0, 1, 3);
-        Drive.set(x, inFirst, 1);
-        Drive.set(x, inSecond, 1);
-        int key = Keys.nth(0, 5, 1);
-        Drive.set(x, key, 1);
-        Check.same("the key is in its first bucket", x.where(key), 5);
-        Check.same("the item of the first bucket has moved", x.where(inFirst), 7);
-        Check.same("the item of the second one has not", x.where(inSecond), 1);
-    }
-
-    private static void shorterPathBeforeFirstBucket() {
-        SteppedCache x = new SteppedCache(12, 1);
-        int inFirst = Keys.nth(0, 0, 2);
-        int behindIt = Keys.nth(0, 2, 4);
-        int inSecond = Keys.nth(0, 1, 3);
-        Drive.set(x, inFirst, 1);
-        Drive.set(x, behindIt, 1);
-        Drive.set(x, inSecond, 1);
-        int key = Keys.nth(0, 0, 1);
-        x.write(0, key, 1, 0, 0);
-        Check.same("one move", x.work(50), 5);
-        Check.same("the key is in its second bucket", x.where(key), 1);
-        Check.same("the item there has moved", x.where(inSecond), 3);
-        Check.same("moves", x.count(2), 1);
-    }
-
-    private static void lesserPlacesFirst() {
-        SteppedCache x = new SteppedCache(20, 2);
-        int[] blockers = {Keys.nth(0, 0, 3), Keys.nth(0, 0, 2), Keys.nth(0, 1, 6), Keys.nth(1, 1, 6)};
-        for (int key : blockers) {
-            Drive.set(x, key, 1);
-        }
-        int key = Keys.nth(0, 0, 1);
-        Drive.set(x, key, 1);
-        Check.same("the lesser p0", x.where(key), 0);
-        Check.same("its item in the lesser p1", x.where(blockers[0]), 6);
-    }
-
-    private static void moveTakesTwoSteps() {
-        SteppedCache x = new SteppedCache(12, 1);
-        int a = Keys.nth(0, 0, 2, Keys.ANY, 1);
-        int b = Keys.nth(0, 2, 3, Keys.ANY, 2);
-        int c = Keys.nth(0, 1, 0, Keys.ANY, 0);
-        Drive.set(x, a, 1);
-        Drive.set(x, b, 1);
-        Drive.set(x, c, 1);
-        int key = Keys.nth(0, 0, 1, Keys.ANY, 3);
-        x.write(0, key, 1, 0, 0);
-        x.work(2);
-        places(x, "after the path", 0, 2, 1, -1);
-        x.work(1);
-        places(x, "b in both places", 0, 2, 1, 1);
-        Check.same("version of b", x.version(2), 1);
-        Check.same("b is found in its first bucket", x.where(b), 2);
-        Check.same("no move is done yet", x.count(2), 0);
-        x.work(1);
-        places(x, "b has moved", 0, 2, -1, 1);
-        Check.same("version of b", x.version(2), 2);
-        Check.same("a move is done", x.count(2), 1);
-        x.work(1);
-        places(x, "a in both places", 0, 2, 0, 1);
-        Check.same("version of a", x.version(1), 1);
-        x.work(1);
-        places(x, "a has moved", -1, 2, 0, 1);
-        Check.same("version of a", x.version(1), 2);
-        Check.same("under way", x.outcome(), 0);
-        Check.same("the last step", x.work(50), 1);
-        places(x, "at the end", 3, 2, 0, 1);
-        Check.same("version of the new key", x.version(3), 0);
-        Check.same("moves", x.count(2), 2);
-    }
-
-    private static void places(SteppedCache x, String when, int... items) {
-        for (int p = 0; p < items.length; p++) {
-            Check.same(when + ": at(" + p + ")", x.at(p), items[p]);
-        }
-    }
-
-    /** Buckets 0, 2, 3, .. each hold an item whose other bucket is the next one; bucket 1 leads back to 0. */
-    private static SteppedCache chain(int length) {
-        SteppedCache x = new SteppedCache(32, 1);
-        Drive.set(x, Keys.nth(0, 0, 2), 1);
-        Drive.set(x, Keys.nth(0, 1, 0), 1);
-        for (int bucket = 2; bucket <= length; bucket++) {
-            Drive.set(x, Keys.nth(0, bucket, bucket + 1), 1);
-        }
+    /** With one slot a bucket: item 0 in its first bucket, 3, and item 1 in its second, 5, with tokens 1 and 2. */
+    private static SteppedCache withTwo(int life) {
+        SteppedCache x = new SteppedCache(4, 1);
+        Drive.setFor(x, IN_FIRST, 10, life);
+        Drive.setFor(x, IN_SECOND, 20, life);
+        Check.same("in the first bucket", x.where(IN_FIRST), 3);
+        Check.same("in the second bucket", x.where(IN_SECOND), 5);
         return x;
     }
 
-    private static void fourMovesAreTheMost() {
-        for (int length = 1; length <= 6; length++) {
-            SteppedCache x = chain(length);
-            int key = Keys.nth(0, 0, 1);
-            x.write(0, key, 1, 0, 0);
-            Check.same("steps with " + length + " moves", x.work(50), length <= 4 ? 3 + 2 * length : 2);
-            Check.same("outcome with " + length + " moves", x.outcome(), length <= 4 ? 1 : 6);
-            Check.same("moves of " + length, x.count(2), length <= 4 ? length : 0);
-            Check.same("place", x.where(key), length <= 4 ? 0 : -1);
+    private static void ends(SteppedCache x, String what, int steps, int outcome) {
+        Check.same(what + ": steps", x.work(50), steps);
+        Check.same(what + ": outcome", x.outcome(), outcome);
+    }
+
+    /** SET and ADD find no room in buckets 3 and 5, so the key for them has other buckets. */
+    private static void kindsWhenNotFound() {
+        int[] steps = {3, 3, 1, 1, 1};
+        int[] outcomes = {1, 1, 2, 4, 4};
+        for (int kind = 0; kind <= 4; kind++) {
+            SteppedCache x = withTwo(0);
+            View before = View.of(x, 4, 1);
+            int key = kind < 2 ? Keys.nth(0, 6, 7) : NOWHERE;
+            x.write(kind, key, 30, 0, 0);
+            ends(x, "kind " + kind + " not found", steps[kind], outcomes[kind]);
+            if (kind < 2) {
+                holds(x, 2, key, 30, 3, 0);
+                Check.same("place", x.where(key), 6);
+            } else {
+                View.of(x, 4, 1).mustBe("kind " + kind + " not found", before, "outcome()", "count(5)");
+            }
+        }
+    }
+
+    private static void holds(SteppedCache x, int i, int key, int value, int token, int expiry) {
+        int[] due = {key, value, token, expiry, 0};
+        for (int which = 0; which < due.length; which++) {
+            Check.same("item(" + i + ", " + which + ")", x.item(i, which), due[which]);
+        }
+    }
+
+    private static void kindsWhenFound() {
+        int[] steps = {3, 1, 3, 3, 1};
+        int[] outcomes = {1, 2, 1, 1, 5};
+        for (int n = 0; n < 10; n++) {
+            int kind = n / 2;
+            int i = n % 2;
+            int key = i == 0 ? IN_FIRST : IN_SECOND;
+            SteppedCache x = withTwo(8);
+            x.pass(7);
+            View before = View.of(x, 4, 1);
+            x.write(kind, key, 30, 6, i + 1);
+            ends(x, "kind " + kind + " found", steps[kind], outcomes[kind]);
+            if (outcomes[kind] == 1) {
+                holds(x, i, key, 30, 3, 13);
+                Check.same("version of kind " + kind, x.version(2), 2);
+                View.of(x, 4, 1).mustBe("kind " + kind + " found", before, "outcome()", "version(2)", "count(5)", "count(9)",
+                        "item(" + i + ", 1)", "item(" + i + ", 2)", "item(" + i + ", 3)");
+            } else if (outcomes[kind] == 2) {
+                View.of(x, 4, 1).mustBe("ADD found", before, "outcome()", "count(5)");
+            } else {
+                Check.no("DELETE found", x.used(i));
+                Check.same("version of DELETE", x.version(2), 2);
+            }
+        }
+    }
+
+    private static void kindsWhenFoundButExpired() {
+        int[] steps = {3, 3, 1, 1, 1};
+        int[] outcomes = {1, 1, 2, 4, 4};
+        for (int n = 0; n < 10; n++) {
+            int kind = n / 2;
+            int i = n % 2;
+            int key = i == 0 ? IN_FIRST : IN_SECOND;
+            SteppedCache x = withTwo(8);
+            x.pass(8);
+            x.write(kind, key, 30, 6, i + 1);
+            ends(x, "kind " + kind + " expired", steps[kind], outcomes[kind]);
+            Check.same("version of kind " + kind + " expired", x.version(2), 2);
+            Check.same("expired ones removed", x.count(6), 1);
+            Check.yes("the other expired one stays", x.used(1 - i));
+            Check.same("used by kind " + kind, x.used(i) ? 1 : 0, kind < 2 ? 1 : 0);
+            Check.same("latest token", x.count(9), kind < 2 ? 3 : 2);
+            if (kind < 2) {
+                holds(x, i, key, 30, 3, 14);
+                Check.same("place", x.where(key), i == 0 ? 3 : 5);
+            }
+        }
+    }
+
+    private static void casTokens() {
+        SteppedCache x = withTwo(0);
+        int[] others = {1, 3, 0, -1, -2, 258, 65538, Integer.MIN_VALUE, Integer.MIN_VALUE + 2, Integer.MAX_VALUE};
+        View before = View.of(x, 4, 1);
+        for (int token : others) {
+            x.write(Drive.CAS, IN_SECOND, 30, 5, token);
+            ends(x, "CAS with token " + token, 1, 3);
+        }
+        View.of(x, 4, 1).mustBe("CAS with other tokens", before, "outcome()", "count(5)");
+        for (int token = 2; token <= 6; token++) {
+            Check.same("CAS with token " + token, Drive.write(x, Drive.CAS, IN_SECOND, token, 5, token), 1);
+        }
+    }
+
+    private static void tokenCountsForCasAlone() {
+        int[] kinds = {Drive.SET, Drive.REPLACE, Drive.DELETE};
+        for (int kind : kinds) {
+            for (int token : new int[] {0, -1, 77, Integer.MAX_VALUE}) {
+                Check.same("kind " + kind, Drive.write(withTwo(0), kind, IN_FIRST, 1, 0, token), kind == 4 ? 5 : 1);
+            }
+        }
+    }
+
+    private static void lives() {
+        for (int life : new int[] {0, 1, 2, 999, 1000}) {
+            for (int passed = 0; passed < 2; passed++) {
+                SteppedCache x = new SteppedCache(4, 1);
+                if (passed == 1) {
+                    x.pass(7);
+                }
+                int due = life == 0 ? 0 : x.count(7) + life;
+                Drive.setFor(x, IN_FIRST, 1, life);
+                Check.same("expiry of INSERT with life " + life, x.item(0, 3), due);
+                Drive.setFor(x, IN_FIRST, 1, 5);
+                Drive.setFor(x, IN_FIRST, 1, life);
+                Check.same("expiry of CHANGE with life " + life, x.item(0, 3), due);
+            }
+        }
+    }
+
+    private static void tokensGrowByOne() {
+        SteppedCache x = new SteppedCache(2, 1);
+        Drive.set(x, IN_FIRST, 1);
+        Check.same("the first token", x.item(0, 2), 1);
+        Drive.set(x, IN_SECOND, 1);
+        Check.same("the next one", x.item(1, 2), 2);
+        Drive.write(x, Drive.ADD, IN_FIRST, 1, 0, 0);
+        Drive.write(x, Drive.REPLACE, NOWHERE, 1, 0, 0);
+        Drive.write(x, Drive.CAS, IN_FIRST, 1, 0, 9);
+        Drive.write(x, Drive.DELETE, NOWHERE, 1, 0, 0);
+        Check.same("none for what stores nothing", x.count(9), 2);
+        Drive.write(x, Drive.CAS, IN_FIRST, 1, 0, 1);
+        Check.same("one for a CHANGE", x.item(0, 2), 3);
+        Drive.delete(x, IN_FIRST);
+        Drive.set(x, IN_FIRST, 1);
+        Check.same("a token does not come again", x.item(0, 2), 4);
+        Check.same("the latest token", x.count(9), 4);
+        x.write(Drive.SET, IN_FIRST, 1, 0, 0);
+        x.work(2);
+        Check.same("none before the last step", x.count(9), 4);
+    }
+
+    private static void timeOfTheFirstStepTellsWhatIsExpired() {
+        SteppedCache x = withTwo(8);
+        x.write(Drive.REPLACE, IN_FIRST, 30, 0, 0);
+        x.pass(8);
+        ends(x, "expired since the write began", 1, 2);
+        Check.same("expired ones removed", x.count(6), 1);
+    }
+
+    private static void changeOfWhatExpiresMeanwhile() {
+        for (int steps = 1; steps <= 2; steps++) {
+            SteppedCache x = withTwo(8);
+            x.write(Drive.CAS, IN_FIRST, 30, 4, 1);
+            x.work(steps);
+            x.pass(9);
+            ends(x, "expired since step " + steps, 3 - steps, 1);
+            holds(x, 0, IN_FIRST, 30, 3, 13);
+            Check.same("expired ones removed", x.count(6), 0);
+        }
+    }
+
+    /** With eviction and four moves a write has the most steps there are, 12. */
+    private static void workEdges() {
+        for (int n : new int[] {1, 2, 11, 12, 13, 49, 50}) {
+            SteppedCache x = new SteppedCache(7, 1);
+            Drive.set(x, Keys.nth(0, 7, 6), 1);
+            Drive.set(x, Keys.nth(0, 0, 2), 1);
+            Drive.set(x, Keys.nth(0, 1, 0), 1);
+            for (int bucket = 2; bucket <= 4; bucket++) {
+                Drive.set(x, Keys.nth(0, bucket, bucket + 1), 1);
+            }
+            Drive.set(x, Keys.nth(0, 6, 7), 1);
+            x.write(Drive.SET, Keys.nth(0, 0, 1), 1, 0, 0);
+            Check.same("work(" + n + ") of 12 steps", x.work(n), Math.min(n, 12));
+            Check.same("outcome after " + n, x.outcome(), n < 12 ? 0 : 1);
+            Check.same("the rest after " + n, x.work(50), Math.max(12 - n, 0));
+            Check.same("outcome at the end", x.outcome(), 1);
+            Check.same("moves", x.count(2), 4);
+            Check.same("evictions", x.count(1), 1);
         }
     }
 }
