@@ -26,6 +26,7 @@ public final class InsertTest {
         allBitsFromAnyHand();
         bitsOfTheMomentCount();
         expiredOnesAreUsed();
+        bitsOfExpiredOnesCount();
         lowestFreeItem();
         lowestFreeSlot();
         chosenSlotsOfLongPaths();
@@ -368,6 +369,19 @@ public final class InsertTest {
         Check.same("the item of the hand is evicted, expired or not", x.item(0, 0), Keys.spread(3));
         Check.yes("an expired one stays", x.used(1));
         Check.yes("another expired one stays", x.used(2));
+    }
+
+    private static void bitsOfExpiredOnesCount() {
+        SteppedCache x = new SteppedCache(2, 4);
+        Drive.setFor(x, Keys.spread(0), 1, 1);
+        Drive.set(x, Keys.spread(1), 1);
+        Drive.read(x, 0, Keys.spread(0));
+        x.pass(1);
+        x.write(Drive.SET, Keys.spread(2), 1, 0, 0);
+        x.work(2);
+        Check.yes("an expired one with its bit on is passed over", x.used(0));
+        Check.same("its bit is off", x.item(0, 4), 0);
+        Check.no("the next one is evicted", x.used(1));
     }
 
     private static void lowestFreeItem() {

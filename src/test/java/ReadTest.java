@@ -35,6 +35,7 @@ public final class ReadTest {
         otherKeysOfTheStripeMatter();
         thirdRetryWithoutAnItem();
         retriesAreOfOneReading();
+        waitsAreNoRetries();
         lockedWaitsForEachStep();
         lockedMakesNoCheck();
         lockedNearMissesInBothBuckets();
@@ -410,7 +411,7 @@ public final class ReadTest {
                 }
                 x.get(0, keys[stripe]);
                 Drive.steps(x, 0, 2);
-                while (x.state(0) < 5) {
+                for (int n = 0; n < 3 && x.state(0) < 5; n++) {
                     x.step(0);
                 }
                 x.work(1);
@@ -532,6 +533,24 @@ public final class ReadTest {
             Drive.steps(x, 1, 2, 4, 5, 7);
         }
         Check.same("retries", x.count(3), 12);
+    }
+
+    private static void waitsAreNoRetries() {
+        SteppedCache x = new SteppedCache(4, 2);
+        Drive.set(x, 1, 10);
+        x.get(0, 1);
+        for (int retry = 1; retry <= 3; retry++) {
+            Drive.steps(x, 0, 2, 4, 5);
+            x.write(Drive.SET, 1, retry, 0, 0);
+            x.work(2);
+            Drive.steps(x, 0, retry < 3 ? 1 : 6);
+            if (retry < 3) {
+                Drive.steps(x, 0, 1, 1, 1, 1);
+                Check.same("waits", x.count(4), 4 * retry);
+            }
+            Check.same("retries", x.count(3), retry);
+            x.work(1);
+        }
     }
 
     private static void lockedWaitsForEachStep() {
