@@ -3,7 +3,9 @@ import java.util.Random;
 /** Random runs of calls, the same every time, on the program and on the plain model. */
 public final class ModelTest {
     private static final int RUNS = 20_000;
-    private static final int CALLS = 240;
+    /** So many that those of lookAtAll come within the 512 for which the document promises anything. */
+    private static final int CALLS_BEFORE_LOOK = 240;
+    private static final int MOST_CALLS = 512;
 
     private static final int[] outcomes = new int[8];
     private static final int[] pathLengths = new int[5];
@@ -52,13 +54,32 @@ public final class ModelTest {
     }
 
     private void run(int seed) {
-        for (int n = 0; n < CALLS && !Check.anyWrong(); n++) {
+        if (seed % 4 == 3) {
+            goTheWholeWay(seed);
+        } else {
+            goAndLookAtAll(seed);
+        }
+        note();
+    }
+
+    private void goTheWholeWay(int seed) {
+        for (int n = 0; n < MOST_CALLS && !Check.anyWrong(); n++) {
+            String when = "run " + seed + ", call " + n + ": ";
+            if (n % 4 == 3) {
+                look(when);
+            } else {
+                call(when);
+            }
+        }
+    }
+
+    private void goAndLookAtAll(int seed) {
+        for (int n = 0; n < CALLS_BEFORE_LOOK && !Check.anyWrong(); n++) {
             call("run " + seed + ", call " + n + ": ");
         }
         if (!Check.anyWrong()) {
             lookAtAll("run " + seed + ", at the end: ");
         }
-        note();
     }
 
     private int key() {
@@ -121,19 +142,24 @@ public final class ModelTest {
 
     private void look(String when) {
         int key = key();
+        int r = number(0, 2);
         int n = number(0, 31);
         int which = number(0, 9);
-        switch (random.nextInt(6)) {
+        switch (random.nextInt(11)) {
             case 0: Check.same(when + "where(" + key + ")", cache.where(key), model.where(key)); break;
             case 1: Check.same(when + "at(" + n + ")", cache.at(n), model.at(n)); break;
             case 2: Check.same(when + "item(" + n + ", " + which + ")", cache.item(n, which), model.item(n, which)); break;
             case 3: Check.same(when + "count(" + which + ")", cache.count(which), model.count(which)); break;
             case 4: Check.same(when + "version(" + which + ")", cache.version(which), model.version(which)); break;
+            case 5: Check.same(when + "used(" + n + ")", one(cache.used(n)), one(model.used(n))); break;
+            case 6: Check.same(when + "hash(" + key + ")", cache.hash(key), model.hash(key)); break;
+            case 7: Check.same(when + "state(" + r + ")", cache.state(r), model.state(r)); break;
+            case 8: Check.same(when + "value(" + r + ")", cache.value(r), model.value(r)); break;
+            case 9: Check.same(when + "token(" + r + ")", cache.token(r), model.token(r)); break;
             default: Check.same(when + "outcome()", cache.outcome(), model.outcome()); break;
         }
     }
 
-    /** With the calls before, these stay within the 512 for which the document promises anything. */
     private void lookAtAll(String when) {
         for (int p = 0; p < 32; p++) {
             Check.same(when + "at(" + p + ")", cache.at(p), model.at(p));
